@@ -29,7 +29,7 @@ public final class GleanedSorry {
     /** Of each KIND the one above it. */
     private static final int[] ABOVE = {-1, 0, 0, 0, 1, 2, 3};
 
-    private final Gleaner[] kinds = new Gleaner[7];
+    private final Gleaner[] kinds;
     private final Kept now;
     private final Kept kept;
     private final Field thought;
@@ -41,16 +41,20 @@ public final class GleanedSorry {
     private int images = 0;
 
     public GleanedSorry() {
-        kinds[0] = new Gleaner();
-        kinds[1] = new Sister();
-        kinds[2] = new Curate();
-        kinds[3] = new Sinner();
-        kinds[4] = new Lover();
-        kinds[5] = new Overseer();
-        kinds[6] = new Professional();
-        now = new Kept(kinds);
-        kept = new Kept(kinds);
-        thought = new Field(kinds, now.bending, now.picking);
+        Gleaner[] all = new Gleaner[7];
+        all[0] = new Gleaner();
+        all[1] = new Sister();
+        all[2] = new Curate();
+        all[3] = new Sinner();
+        all[4] = new Lover();
+        all[5] = new Overseer();
+        all[6] = new Professional();
+        Law bending = new Law(0);
+        Law picking = new Law(1);
+        kinds = all;
+        now = new Kept(new Field(all, bending, picking));
+        thought = new Field(all, bending, picking);
+        kept = new Kept(new Field(all, new Law(0), new Law(1)));
         for (int i = 0; i < SHEETS; i++) {
             sheets[i] = new Row(MOST_NUMBERS);
         }
@@ -950,7 +954,10 @@ public final class GleanedSorry {
         }
     }
 
-    /** CELLS, PEOPLE and the DAWN, and how a DAWN goes: either as all is, or as it would be. */
+    /**
+     * CELLS, PEOPLE and the DAWN, and how a DAWN goes: either as all is, or as it would be. A thought shares the
+     * laws with what it is a thought of, so copying leaves them out.
+     */
     private static final class Field {
         private int cells = 0;
         private final int[] ears = new int[MOST_CELLS];
@@ -1034,6 +1041,10 @@ public final class GleanedSorry {
             return kinds[kind[p]].eats(m[p]);
         }
 
+        private int burdenOf(int p) {
+            return kinds[kind[p]].burden(m[p]);
+        }
+
         private int allBags() {
             return sumOf(bag, people);
         }
@@ -1091,10 +1102,7 @@ public final class GleanedSorry {
 
     /** All that an IMAGE keeps. */
     private static final class Kept {
-        private final Law bending = new Law(0);
-        private final Law picking = new Law(1);
         private final Field field;
-        private final Gleaner[] kinds;
         private int wrongs = 0;
         private final int[] by = new int[MOST_WRONGS];
         private final int[] to = new int[MOST_WRONGS];
@@ -1103,14 +1111,13 @@ public final class GleanedSorry {
         private final Row waiting = new Row(MOST_WAITING);
         private int z = 1;
 
-        private Kept(Gleaner[] kinds) {
-            this.kinds = kinds;
-            field = new Field(kinds, bending, picking);
+        private Kept(Field field) {
+            this.field = field;
         }
 
         private void copyFrom(Kept other) {
-            bending.code.copyFrom(other.bending.code);
-            picking.code.copyFrom(other.picking.code);
+            field.bending.code.copyFrom(other.field.bending.code);
+            field.picking.code.copyFrom(other.field.picking.code);
             field.copyFrom(other.field);
             wrongs = other.wrongs;
             System.arraycopy(other.by, 0, by, 0, MOST_WRONGS);
@@ -1122,7 +1129,7 @@ public final class GleanedSorry {
         }
 
         private Law lawOf(int use) {
-            return use == 0 ? bending : picking;
+            return use == 0 ? field.bending : field.picking;
         }
 
         private int addWrong(int from, int onto, int heavy) {
@@ -1159,7 +1166,7 @@ public final class GleanedSorry {
         /** Lays on everybody in a field what WEIGHS there, the WRONGS of a set being forgiven. */
         private void weigh(Field f, int forgiven) {
             for (int p = 0; p < f.people; p++) {
-                f.weighs[p] = kinds[f.kind[p]].burden(f.m[p]);
+                f.weighs[p] = f.burdenOf(p);
             }
             for (int i = 0; i < wrongs; i++) {
                 if ((forgiven & 1 << i) == 0) {
@@ -1217,17 +1224,14 @@ public final class GleanedSorry {
     }
 
     private static class Sister extends Gleaner {
-        @Override
         int bends(int v, int m, boolean inCompany) {
             return inCompany ? Math.max(0, v - 1) : v;
         }
 
-        @Override
         int eats(int m) {
             return 1;
         }
 
-        @Override
         int bows(Row began, int n, int m, int x) {
             began.add(20);
             return super.bows(began, n, m, x) * 3;
@@ -1235,12 +1239,10 @@ public final class GleanedSorry {
     }
 
     private static class Curate extends Gleaner {
-        @Override
         int bends(int v, int m, boolean inCompany) {
             return 0;
         }
 
-        @Override
         int picks(Row began, int n, int m, int x) {
             began.add(30);
             return super.picks(began, n, m, x) - sighs(began, n, m, 1);
@@ -1248,12 +1250,10 @@ public final class GleanedSorry {
     }
 
     private static class Sinner extends Gleaner {
-        @Override
         int bends(int v, int m, boolean inCompany) {
             return v + m % 3;
         }
 
-        @Override
         int sighs(Row began, int n, int m, int x) {
             began.add(40);
             return -super.sighs(began, n, m, x);
@@ -1261,12 +1261,10 @@ public final class GleanedSorry {
     }
 
     private static final class Lover extends Sister {
-        @Override
         int bends(int v, int m, boolean inCompany) {
             return super.bends(v, m, inCompany) + 1;
         }
 
-        @Override
         int stands(Row began, int n, int m, int x) {
             began.add(50);
             return super.stands(began, n, m, x) - bows(began, n, m, 2);
@@ -1274,17 +1272,14 @@ public final class GleanedSorry {
     }
 
     private static final class Overseer extends Curate {
-        @Override
         int bends(int v, int m, boolean inCompany) {
             return m / 2;
         }
 
-        @Override
         int eats(int m) {
             return super.eats(m) + 1;
         }
 
-        @Override
         int picks(Row began, int n, int m, int x) {
             began.add(60);
             return super.picks(began, n, m, x + 1);
@@ -1292,23 +1287,19 @@ public final class GleanedSorry {
     }
 
     private static final class Professional extends Sinner {
-        @Override
         int eats(int m) {
             return super.eats(m) + m % 2;
         }
 
-        @Override
         int burden(int m) {
             return m;
         }
 
-        @Override
         int sighs(Row began, int n, int m, int x) {
             began.add(70);
             return super.sighs(began, n, m, x) ^ n;
         }
 
-        @Override
         int stands(Row began, int n, int m, int x) {
             began.add(71);
             return picks(began, n, m, x) - super.stands(began, n, m, x);
