@@ -552,8 +552,13 @@ public final class PromiseTest {
         is("state", o.loose(40), STATE);
         is("beyond comes first", o.loose(41), BEYOND);
         is("dawn", o.count(3), 9960);
-        is("dawns", o.dawns(1), 0);
+        is("loose", o.loose(1), 0);
+        is("image", o.image(), 1);
         is("loose", o.loose(38), 0);
+        is("dawn", o.count(3), 9999);
+        is("restore", o.restore(), 9961);
+        is("state", o.dawns(39), STATE);
+        is("dawns", o.dawns(38), 0);
         is("dawn", o.count(3), 9999);
         is("state", o.dawns(1), STATE);
         is("state", o.loose(1), STATE);
@@ -673,6 +678,13 @@ public final class PromiseTest {
         is("change", o.change(2, 2, 9), 0);
         is("upright", o.upright(0), 3);
         is("upright", o.upright(1), 1);
+        GleanedSorry six = with(10, 10, 10, 10, 10, 10);
+        for (int i = 0; i < 6; i++) {
+            is("change", six.change(i, 2, 60), 0);
+        }
+        is("not by 60", six.upright(0), NONE);
+        is("change", six.change(5, 2, 58), 60);
+        is("the last one", six.upright(1), 5);
         GleanedSorry sorry = with(0, 10);
         is("wrong", sorry.wrong(0, 1, 4), 0);
         is("change", sorry.change(1, 2, 50), 0);
