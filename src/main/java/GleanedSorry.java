@@ -1073,8 +1073,12 @@ public final class GleanedSorry {
 
         private void pick(int p) {
             int cell = at[p];
-            int bends = bendsOf(p);
             picked[p] = 0;
+            // Most thoughts end in empty CELLS, where the laws needn't be asked.
+            if (ears[cell] == 0) {
+                return;
+            }
+            int bends = bendsOf(p);
             if (bends >= low[cell]) {
                 picked[p] = Math.min(ears[cell], picking.gives(bends, ears[cell], m[p]));
             }
