@@ -17,6 +17,7 @@ public final class GleanedSorry {
     private static final int MOST_EARS = 999;
     private static final int MOST_LOW = 9;
     private static final int MOST_BAG = 9999;
+    private static final int MOST_HUNGRY = 9999;
     private static final int LAST_DAWN = 9999;
     private static final int MOST_KM = 69;
     private static final int MOST_BYTES = 50;
@@ -1097,7 +1098,8 @@ public final class GleanedSorry {
 
         private void eat(int p) {
             int eats = eatsOf(p);
-            if (bag[p] < eats) {
+            // DAWN alone goes beyond its range in thoughts; HUNGRY stays within its own there, too.
+            if (bag[p] < eats && hungry[p] < MOST_HUNGRY) {
                 hungry[p]++;
             }
             bag[p] = Math.max(0, bag[p] - eats);

@@ -6,6 +6,7 @@ import java.util.Random;
 /** Runs of calls drawn from a fixed seed: the class answers each as the model does. */
 public final class ModelTest {
     private static final int RUNS = 1200;
+    private static final int LATE_RUNS = 120;
     private static final int CALLS = 512;
 
     private final Random random;
@@ -24,7 +25,10 @@ public final class ModelTest {
     public static void main(String[] args) {
         Map<String, Integer> rightly = new HashMap<>();
         for (int seed = 0; seed < RUNS; seed++) {
-            new ModelTest(seed, rightly).go();
+            new ModelTest(seed, rightly).go(false);
+        }
+        for (int seed = RUNS; seed < RUNS + LATE_RUNS; seed++) {
+            new ModelTest(seed, rightly).go(true);
         }
         for (String name : Calls.NAMES) {
             Due.part("coverage");
@@ -48,7 +52,7 @@ public final class ModelTest {
         return random.nextInt(most + 1);
     }
 
-    private void go() {
+    private void go(boolean late) {
         boolean plentiful = random.nextBoolean();
         if (random.nextBoolean()) {
             call("field", 2 + upTo(8));
@@ -70,6 +74,9 @@ public final class ModelTest {
         if (random.nextInt(4) == 0) {
             write(1);
         }
+        if (late) {
+            comeNearTheLastDawn();
+        }
         while (made < CALLS - 10) {
             step();
         }
@@ -79,6 +86,22 @@ public final class ModelTest {
         for (int k = 0; k < 4; k++) {
             call("count", random.nextInt(11));
         }
+    }
+
+    /** DAWN and HUNGRY come to their ends here, and thoughts go past them. */
+    private void comeNearTheLastDawn() {
+        for (int i = 0; i < 166; i++) {
+            call("dawns", 60);
+        }
+        call("dawns", 1 + upTo(38));
+        for (int i = 0; i < model.now.people.size(); i++) {
+            call("then", upTo(60), i, 1);
+            call("adds", i, upTo(60));
+        }
+        call("upright", 0);
+        call("upright", 1);
+        call("starves", upTo(60));
+        call("pardons", upTo(20));
     }
 
     private void step() {

@@ -34,6 +34,7 @@ public final class PromiseTest {
         promise17LastDawn();
         promise18();
         promise19();
+        promise19JustBelowMostHungry();
         promise20();
         promise21();
         promise22();
@@ -564,14 +565,51 @@ public final class PromiseTest {
         is("state", o.dawns(1), STATE);
         is("state", o.loose(1), STATE);
         is("hungry", o.ofPerson(0, 5), 9999);
-        is("thought beyond", o.then(60, 0, 1), 10059);
+        promise19To27AtMostHungry(o);
+    }
+
+    /** One is HUNGRY 9999 at the last DAWN: no thought makes that more, and what is no more starves nobody. */
+    private static void promise19To27AtMostHungry(GleanedSorry o) {
+        Due.part("promises 19 to 27, hungry 9999");
+        for (int n : new int[] {0, 1, 2, 60}) {
+            is("held in thoughts, too", o.then(n, 0, 1), 9999);
+        }
+        is("upright", o.upright(0), NONE);
+        is("adds", o.adds(0, 60), 0);
+        is("pardons", o.pardons(20), 0);
+        is("starves", o.starves(60), 0);
+        is("one who came late", o.person(0, 0), 1);
+        is("then", o.then(60, 1, 1), 60);
         is("upright", o.upright(0), 1);
+        is("upright", o.upright(1), 1);
+        is("starves", o.starves(60), 2);
+        is("pardons", o.pardons(1), NONE);
+        is("wrong", o.wrong(0, 1, 1), 0);
+        is("odds", o.odds(0, 60, 0), 1);
+        is("odds", o.odds(1, 60, 0), 0);
         is("text", text(o, 0, "d>9999"), 1);
-        is("become", o.become(0, 0), 2);
         // Bends from the DAWN 10000 on, which is the second one thought of.
-        is("then", o.then(1, 0, 1), 10000);
-        is("then", o.then(2, 0, 1), 10000);
+        is("then", o.then(1, 1, 1), 1);
+        is("then", o.then(2, 1, 1), 1);
+        is("ears from then on", o.then(11, 1, 1), 1);
+        is("no ears are left", o.then(12, 1, 1), 2);
+        is("hungry", o.ofPerson(0, 5), 9999);
         is("dawn", o.count(3), 9999);
+    }
+
+    private static void promise19JustBelowMostHungry() {
+        Due.part("promise 19, hungry 9960");
+        GleanedSorry o = with(0);
+        for (int i = 0; i < 166; i++) {
+            is("dawns", o.dawns(60), 0);
+        }
+        is("then", o.then(38, 0, 1), 9998);
+        is("then", o.then(39, 0, 1), 9999);
+        is("then", o.then(40, 0, 1), 9999);
+        is("then", o.then(60, 0, 1), 9999);
+        is("upright", o.upright(0), 1);
+        is("starves", o.starves(60), 1);
+        is("hungry", o.ofPerson(0, 5), 9960);
     }
 
     private static void promise18() {

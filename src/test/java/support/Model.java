@@ -109,7 +109,7 @@ final class Model {
                     p.bag -= needs;
                 } else {
                     p.bag = 0;
-                    p.hungry++;
+                    p.hungry = Math.min(9999, p.hungry + 1);
                 }
             }
             dawn++;
