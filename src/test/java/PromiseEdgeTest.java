@@ -408,7 +408,7 @@ public final class PromiseEdgeTest {
     }
 
     private static int[][] rows(Ask o) {
-        int[][] rows = new int[6 + 6 + 8 + 1][9];
+        int[][] rows = new int[6 + 6 + 8 + 2][9];
         for (int p = 0; p < 6; p++) {
             for (int what = 0; what <= 8; what++) {
                 rows[p][what] = o.call("ofPerson", p, what);
@@ -425,6 +425,9 @@ public final class PromiseEdgeTest {
         for (int what = 0; what <= 8; what++) {
             rows[20][what] = o.call("count", what == 0 ? 10 : what);
         }
+        for (int use = 0; use <= 1; use++) {
+            rows[21][use] = o.call("law", use, 13, 2, 1);
+        }
         return rows;
     }
 
@@ -435,6 +438,12 @@ public final class PromiseEdgeTest {
         Ask o = new Ask().make("image").people(0, 0).make("wrong", 0, 1, 20).due(0, "restore").due(0, "count", 1);
         o.due(0, "count", 2).due(BEYOND, "ofPerson", 0, 0).due(BEYOND, "ofWrong", 0, 0).due(5, "field", 2);
         o.due(0, "restore").due(5, "count", 0);
+        Due.part("restore: one who comes then is as at first");
+        o.people(0).make("change", 0, 1, 1).make("change", 0, 2, 1).make("dawns", 2).due(0, "restore").people(10);
+        o.due(0, "ofPerson", 0, 3).due(0, "ofPerson", 0, 4).due(0, "ofPerson", 0, 5);
+        Due.part("restore: without a TEXT, as it was");
+        Ask law = new Ask().make("image").text(1, 0, "w").text(1, 1, "e").due(0, "restore").due(3, "law", 0, 7, 0, 0);
+        law.due(8, "law", 1, 7, 0, 0);
         Due.part("restore: full again");
         Ask full = Made.full().make("image").make("forgive", 0).make("check");
         full.call("text", 0);

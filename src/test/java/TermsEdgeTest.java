@@ -4,7 +4,6 @@ public final class TermsEdgeTest {
     private static final int NONE = Ask.NONE;
     private static final int STATE = Ask.STATE;
     private static final int FULL = Ask.FULL;
-    private static final int KIND = Ask.KIND;
     private static final int MAX = Ask.MAX;
     private static final int MIN = Ask.MIN;
 
@@ -346,7 +345,21 @@ public final class TermsEdgeTest {
         o.due(NONE, "trace", 9).due(NONE, "trace", -1).due(NONE, "trace", 39).due(NONE, "trace", 40);
         Due.part("THE TRACE of the latest voice() alone");
         o.make("voice", 0, 0, 1).due(1, "count", 9).due(10, "trace", 0).due(NONE, "trace", 1).due(NONE, "trace", 8);
-        Due.part("it is as KIND it is");
-        o.due(KIND, "as", 0, 5).due(1, "count", 9);
+        Due.part("THE TRACE: the numbers of BODIES, as they began");
+        String[][] began = {{"10", "11 10", "12", "13 11 10 12"}, {"20 10", "11 20 10", "12", "13 11 20 10 12"},
+            {"10", "30 11 10 12", "12", "13 30 11 10 12 12"}, {"10", "11 10", "40 12", "13 11 10 40 12"},
+            {"20 10", "11 20 10", "12", "50 13 11 20 10 12 20 10"},
+            {"10", "60 30 11 10 12", "12", "13 60 30 11 10 12 12"},
+            {"10", "11 10", "70 40 12", "71 11 10 13 11 10 70 40 12"}};
+        for (int kind = 0; kind <= 6; kind++) {
+            Ask one = new Ask().people(10 * kind + 3);
+            for (int act = 0; act <= 3; act++) {
+                String[] row = began[kind][act].split(" ");
+                one.make("voice", 0, act, 1).due(row.length, "count", 9).due(NONE, "trace", row.length);
+                for (int i = 0; i < row.length; i++) {
+                    one.due(Integer.parseInt(row[i]), "trace", i);
+                }
+            }
+        }
     }
 }

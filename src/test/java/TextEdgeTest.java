@@ -234,15 +234,16 @@ public final class TextEdgeTest {
     private static void trueOrNot() {
         Due.part("| & < = > ! are 1 or 0, what is not 0 being true");
         int[] values = {0, 1, -1, 2, MAX, MIN};
+        // Behind 50, so that what is below 0 would show.
         for (int b : values) {
-            worth(b == 0 ? 1 : 0, "!b", b, 0, 0);
-            worth(b == 0 ? 0 : 1, "!!b", b, 0, 0);
+            worth(b == 0 ? 51 : 50, "50+!b", b, 0, 0);
+            worth(b == 0 ? 50 : 51, "50+!!b", b, 0, 0);
             for (int e : values) {
-                worth(b != 0 || e != 0 ? 1 : 0, "b|e", b, e, 0);
-                worth(b != 0 && e != 0 ? 1 : 0, "b&e", b, e, 0);
-                worth(b < e ? 1 : 0, "b<e", b, e, 0);
-                worth(b == e ? 1 : 0, "b=e", b, e, 0);
-                worth(b > e ? 1 : 0, "b>e", b, e, 0);
+                worth(b != 0 || e != 0 ? 51 : 50, "50+(b|e)", b, e, 0);
+                worth(b != 0 && e != 0 ? 51 : 50, "50+(b&e)", b, e, 0);
+                worth(b < e ? 51 : 50, "50+(b<e)", b, e, 0);
+                worth(b == e ? 51 : 50, "50+(b=e)", b, e, 0);
+                worth(b > e ? 51 : 50, "50+(b>e)", b, e, 0);
             }
         }
     }

@@ -60,6 +60,9 @@ public final class ThoughtEdgeTest {
         for (int n : new int[] {0, 41, 60, -1, MAX, MIN}) {
             o.due(BEYOND, "loose", n).due(0, "count", 3).due(1, "count", 10);
         }
+        Due.part("loose: EARS in all BAGS together, likewise");
+        Ask sorry = new Ask().people(0, 0).make("wrong", 0, 1, 4).make("wrong", 1, 0, 6).due(3 + 4 - 4, "loose", 1);
+        sorry.due(13, "ofCell", 0, 0);
         Due.part("loose: STATE, and z stays");
         Ask late = new Ask().people(0).comeLate().due(STATE, "loose", 40).due(1, "count", 10).due(9960, "count", 3);
         late.due(0, "loose", 39).due(9999, "count", 3).due(drawn(1, 78), "count", 10).due(STATE, "loose", 1);
@@ -74,6 +77,13 @@ public final class ThoughtEdgeTest {
         o.due(0, "then", 59, 1, 1).due(1, "then", 60, 1, 1).due(BEYOND, "then", 61, 0, 0).due(BEYOND, "then", -1, 0, 0);
         o.due(BEYOND, "then", 0, 2, 0).due(BEYOND, "then", 0, -1, 0).due(BEYOND, "then", 0, 0, 2);
         o.due(BEYOND, "then", 0, 0, -1).due(0, "count", 3).due(179, "count", 5);
+        Due.part("then: all WRONGS weigh");
+        Ask sorry = new Ask().people(0, 0).make("wrong", 0, 1, 4).make("wrong", 0, 1, 2).make("wrong", 1, 0, 6);
+        sorry.due(2, "then", 1, 0, 0).due(2, "then", 1, 1, 0).due(5, "upright", 0).due(1, "upright", 1);
+        sorry.due(2, "best", 0, 1, 1).due(0, "best", 0, 1, 0).make("tell", 4).make("tell", 8).make("tell", 8)
+                .due(0, "check");
+        Due.part("brings: all else, too, but what WEIGHS on that one");
+        sorry.numbers(0, 8, 4, 4, 0).due(2, "brings", 0, 1, 0).due(6, "brings", 0, 1, 1);
         Due.part("then: HUNGRY as it is, behind none");
         o.make("dawns", 60).make("dawns", 5).due(5, "then", 0, 0, 1).due(6, "then", 0, 1, 1).due(65, "then", 60, 0, 1);
     }
