@@ -5,8 +5,10 @@ import java.lang.reflect.Modifier;
 import java.nio.file.Files;
 import java.nio.file.Path;
 import java.util.Arrays;
+import java.util.List;
 import java.util.Set;
 import java.util.TreeSet;
+import java.util.regex.Matcher;
 import java.util.regex.Pattern;
 
 /** The face is the document's and no more, and the source keeps to rules of LANGUAGE.md that can be seen here. */
@@ -18,6 +20,7 @@ public final class FaceTest {
         face();
         nested();
         source();
+        lengths();
         Due.end();
     }
 
@@ -83,5 +86,29 @@ public final class FaceTest {
             String edge = Character.isLetter(word.charAt(0)) ? "\\b" : "";
             Due.is("no " + word, Pattern.compile(edge + word + edge).matcher(code).find() ? 1 : 0, 0);
         }
+    }
+
+    private static void lengths() throws Exception {
+        Due.part("rule 11");
+        Pattern first = Pattern.compile("( +)(?!if|for|while|switch|else|do\\b|try)[\\w\\[\\] ]+\\(.*\\) \\{");
+        String end = null;
+        String name = "";
+        int from = 0;
+        int methods = 0;
+        List<String> lines = Files.readAllLines(Path.of("src/main/java/GleanedSorry.java"));
+        for (int i = 0; i < lines.size(); i++) {
+            Matcher m = first.matcher(lines.get(i));
+            if (end == null && m.matches()) {
+                end = m.group(1) + "}";
+                name = lines.get(i).trim();
+                from = i;
+                methods++;
+            } else if (lines.get(i).equals(end)) {
+                Due.is(name + " has at most sixty lines", i - from + 1 <= 60 ? 1 : 0, 1);
+                end = null;
+            }
+        }
+        Due.is("methods were found", methods > Calls.NAMES.length ? 1 : 0, 1);
+        Due.is("each one ends", end == null ? 1 : 0, 1);
     }
 }
